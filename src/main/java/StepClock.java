@@ -799,32 +799,22 @@ public final class StepClock {
             if (first == NONE) {
                 token = END;
             } else if (isLetter(first)) {
-                passWord();
+                while (behind < length && isLetter(byteAt(behind))) {
+                    behind++;
+                }
                 token = WORD;
             } else if (isDigit(first)) {
-                passNumber();
+                number = 0;
+                while (behind < length && isDigit(byteAt(behind))) {
+                    // Beyond the greatest number it grows no more, so that it can't wrap around.
+                    number = number > MOST_NUMBER ? number : number * 10 + byteAt(behind) - '0';
+                    behind++;
+                }
                 boolean zeroAhead = first == '0' && behind - start > 1;
                 token = zeroAhead || number > MOST_NUMBER ? WRONG : NUMBER;
             } else {
                 behind++;
                 token = first == ';' ? SEMICOLON : WRONG;
-            }
-        }
-
-        private void passWord() {
-            while (behind < length && isLetter(byteAt(behind))) {
-                behind++;
-            }
-        }
-
-        private void passNumber() {
-            number = 0;
-            while (behind < length && isDigit(byteAt(behind))) {
-                // Beyond the greatest number it grows no more, so that it can't wrap around.
-                if (number <= MOST_NUMBER) {
-                    number = number * 10 + byteAt(behind) - '0';
-                }
-                behind++;
             }
         }
 

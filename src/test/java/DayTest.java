@@ -145,7 +145,7 @@ public final class DayTest {
         String[] texts = {
             "|;", "person;|;", "person;|5;", "|go 1 2 3;", "|wait 1 2 3;",
             "clock 10;|go 1 2 3;", "|hours 1 2;", "|fire;", "|persons;", "|perso", "|clocks 10;",
-            "|Clock 10;", "|cLock 10;", "|goo 1 2 3;", "|7;", "|_", "|\t;",
+            "|Clock 10;", "|cLock 10;", "person;|xo 1 1 1;", "|glock 10;", "clock |zz;", "|personz;", "|goo 1 2 3;", "|7;", "|_", "|\t;",
             "person;|\u00e9", "person|,", "person |10;", "person |person;", "|personperson;",
             "clock |9;", "clock |1000;", "clock |010;", "clock |99999999999999999999;", "clock |;",
             "clock |4294967306;", "clock 10 |20;", "clock 10|clock 10;", "clock 10;|clock 10;",
@@ -226,6 +226,15 @@ public final class DayTest {
 
     private static void theLimitsThemselves() {
         items("clock 10;person;go 0 1 1;go 239 999 99;wait 1 1 1;wait 99 999 99;", 6);
+        StepClock full = new StepClock();
+        Checks.type(full, ("person;" + "go 9 8 7;wait 6 5 4;".repeat(2)).repeat(6));
+        Checks.due("all ways there may be", full.day(), 30);
+        for (int p = 0; p < 6; p++) {
+            for (int k = 0; k < 4; k += 2) {
+                row(full, p, k, 0, 9, 8, 7);
+                row(full, p, k + 1, 1, 6, 5, 4);
+            }
+        }
         items("clock 999;march 0 1 1;march 239 240 999;", 3);
         items("work hours 1 0;work hours 999 99;work fire 1 0;work fire 240 99;", 4);
     }

@@ -72,6 +72,8 @@ public final class HoursTest {
         Checks.due("hangs(0)", x.hangs(0), 12);
         StepClock y = Checks.told("person;go 0 5 5;person;wait 1 5 5;person;go 239 5 1;wait 99 1 1;"
                 + "person;go 239 5 5;wait 99 1 1;person;");
+        Checks.due("the first", Checks.told("person;wait 1 1 1;person;go 0 1 1;").hangs(0), 1);
+        Checks.due("not who waits for a minute", Checks.told("person;go 239 1 1;go 239 1 1;").hangs(0), 0);
         Checks.due("not who is on a way, nor who is done", y.hangs(0), 2 | 8);
     }
 

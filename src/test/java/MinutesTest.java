@@ -55,6 +55,10 @@ public final class MinutesTest {
         Checks.due("HOUR", x.now(2), 2);
         Checks.due("minute 4", x.go(1), 1);
         person(x, 3, 1, 0, 0, 1);
+        StepClock y = Checks.told("person;go 0 3 2;person;");
+        y.go(1);
+        Checks.due("one step is left", y.now(3), 1);
+        person(y, 0, 0, 1, 1, 2);
     }
 
     private static void marches() {
