@@ -1,7 +1,7 @@
 /** Long runs of calls, ordinary and wrong ones, each answer against the model's. */
 public final class ModelTest {
-    private static final int RUNS = 300;
-    private static final int CALLS = 500;
+    private static final int RUNS = 375;
+    private static final int CALLS = 400;
 
     private long seed;
     private final StepClock x = new StepClock();
