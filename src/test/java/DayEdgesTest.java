@@ -33,9 +33,15 @@ public final class DayEdgesTest {
         dayWithoutBlanks();
         dayWithOtherBytesThanBlanks();
         dayWithItemsNotEnded();
+        wordsOfSmallLetters();
         theClockOnceAtMost();
+        theClockToldAgain();
         theClockOfTenToNineHundred();
         aDayThatTellsNoClock();
+        peopleFromNoneToSix();
+        waysFromNoneToFour();
+        marchesFromNoneToFour();
+        worksFromNoneToSix();
         sixPeopleAtMost();
         fourWaysAtMost();
         waysOfThePersonToldLast();
@@ -384,12 +390,39 @@ public final class DayEdgesTest {
         fault("work hours 1 2 |person;");
     }
 
+    private static void wordsOfSmallLetters() {
+        Checks.sentence(4, "TOKENS are words of letters a .. z (clock, person, go, wait, march, work, hours, fire), NUMBERS and ; .");
+        read("clock 20;person;go 1 1 1;wait 1 1 1;march 1 1 1;work hours 1 1;work fire 1 1;", 7);
+        fault("|CLOCK 20;");
+        fault("|Person;");
+        fault("|persoN;");
+        fault("person;|GO 1 1 1;");
+        fault("person;|wAit 1 1 1;");
+        fault("|marcH 1 1 1;");
+        fault("|Work fire 1 1;");
+        fault("work |Hours 1 1;");
+        fault("work |fIre 1 1;");
+        fault("person|:");
+    }
+
     private static void theClockOnceAtMost() {
         Checks.sentence(4, "clock K (once at most)");
-        tooMany("", "clock 20;", 1);
-        fault("clock 20;person;march 1 1 1;|clock 20;");
+        Checks.due("none", read("person;", 1).count(5), 90);
+        Checks.due("once", read("clock 20;", 1).count(5), 20);
         Checks.due("once, behind others", read("person;march 1 1 1;clock 20;", 3).count(5), 20);
+        tooMany("", "clock 20;", 1);
+    }
+
+    private static void theClockToldAgain() {
+        Checks.sentence(4, "(clock told again, a seventh person");
+        fault("clock 20;|clock 20;");
+        fault("clock 20;person;march 1 1 1;|clock 30;");
         fault("clock 20;|clock");
+        fault("clock 20;|clock 9;");
+        StepClock x = read("clock 20;", 1);
+        Checks.type(x, "clock 30;");
+        Checks.due("in another day it is told anew", x.day(), 1);
+        Checks.due("count(5)", x.count(5), 30);
     }
 
     /** An item whose number, put for #, may be least to most; one less and one more may not. */
@@ -426,6 +459,53 @@ public final class DayEdgesTest {
         read(ahead + item.repeat(most), items + most);
         fault(ahead + item.repeat(most) + "|" + item);
         fault(ahead + item.repeat(most) + "  |" + item);
+    }
+
+    private static void peopleFromNoneToSix() {
+        Checks.sentence(4, "PEOPLE 0 .. (6 at most)");
+        for (int people = 0; people <= 6; people++) {
+            StepClock x = read("person;".repeat(people), people);
+            Checks.due("count(0)", x.count(0), people);
+            for (int p = 0; p <= 6; p++) {
+                Checks.due("person(" + p + ", 0) of " + people, x.person(p, 0), p < people ? 0 : StepClock.BAD);
+            }
+        }
+    }
+
+    private static void waysFromNoneToFour() {
+        Checks.sentence(4, "have WAYS 0 .. (4 at most, one behind another)");
+        for (int ways = 0; ways <= 4; ways++) {
+            StringBuilder text = new StringBuilder("person;go 9 9 9;person;");
+            for (int k = 0; k < ways; k++) {
+                text.append("go ").append(10 + k).append(" 1 1;");
+            }
+            StepClock x = read(text + "person;go 8 8 8;", 5 + ways);
+            for (int k = 0; k <= 4; k++) {
+                Checks.due("way(1, " + k + ", 1) of " + ways, x.way(1, k, 1), k < ways ? 10 + k : StepClock.BAD);
+            }
+        }
+    }
+
+    private static void marchesFromNoneToFour() {
+        Checks.sentence(4, "MARCHES 0 .. (4 at most)");
+        for (int marches = 0; marches <= 4; marches++) {
+            StepClock x = read("march 1 2 3;".repeat(marches), marches);
+            Checks.due("count(1)", x.count(1), marches);
+            for (int m = 0; m <= 4; m++) {
+                Checks.due("march(" + m + ", 2) of " + marches, x.march(m, 2), m < marches ? 3 : StepClock.BAD);
+            }
+        }
+    }
+
+    private static void worksFromNoneToSix() {
+        Checks.sentence(4, "WORKS 0 .. (6 at most)");
+        for (int works = 0; works <= 6; works++) {
+            StepClock x = read("work fire 2 3;".repeat(works), works);
+            Checks.due("count(2)", x.count(2), works);
+            for (int w = 0; w <= 6; w++) {
+                Checks.due("work(" + w + ", 2) of " + works, x.work(w, 2), w < works ? 3 : StepClock.BAD);
+            }
+        }
     }
 
     private static void sixPeopleAtMost() {

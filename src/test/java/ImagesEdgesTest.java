@@ -9,6 +9,7 @@ public final class ImagesEdgesTest {
         markASoldier();
         markAStriker();
         markAGuest();
+        markOfAKindUnderAnother();
         markAtFirst();
         markAtTheEnd();
         markBelowNothing();
@@ -36,6 +37,7 @@ public final class ImagesEdgesTest {
 
         traceAtFirst();
         traceOfEachKind();
+        traceAsOftenAsABodyIsAsked();
         traceOfAllCallsEver();
         traceOfRefusedCalls();
         traceOfAllTheCallsThatThereMayBe();
@@ -90,6 +92,14 @@ public final class ImagesEdgesTest {
         Checks.due("at minute 59", x.mark(5, 0), 0);
         x.go(1);
         Checks.due("at minute 60", x.mark(5, 0), 1);
+    }
+
+    private static void markOfAKindUnderAnother() {
+        Checks.sentence(26, "0 PERSON; 1 WALKER, 2 SITTER, 5 GUEST (each under PERSON); 3 SOLDIER (under WALKER); 4 STRIKER (under SITTER)");
+        int[] want = {65, 100, 46, 200, 111, 66};
+        for (int kind = 0; kind < 6; kind++) {
+            Checks.due("mark(" + kind + ", 0)", atMinute65().mark(kind, 0), want[kind]);
+        }
     }
 
     private static void markAtFirst() {
@@ -386,6 +396,17 @@ public final class ImagesEdgesTest {
             Checks.due("trace() behind mark(" + kind + ", 0)", x.trace(), TRACES[kind]);
             x.mark(kind, 1);
             Checks.due("trace() behind mark(" + kind + ", 1)", x.trace(), 2L * TRACES[kind]);
+        }
+    }
+
+    private static void traceAsOftenAsABodyIsAsked() {
+        Checks.sentence(30, "as often as mark() asks that body");
+        int[][] bodies = {{1}, {10, 1}, {100, 1}, {1000, 10, 1}, {10000, 100, 1}, {100000, 1}};
+        StepClock x = atMinute65();
+        for (int[] asked : bodies) {
+            long before = x.trace();
+            x.mark(java.util.Arrays.asList(bodies).indexOf(asked), 0);
+            Checks.due("what came to the trace", x.trace() - before, java.util.Arrays.stream(asked).sum());
         }
     }
 
